@@ -139,6 +139,16 @@ public final class ToolChoicePromises {
         no("tool 5", x.order(5, 0));
         sameOrder(x, 0, 1, 2, 3, 4);
 
+        ToolChoice full = onePlatform(0);
+        int[] turned = new int[24];
+        for (int i = 0; i < 24; i++) {
+            full.tool(0, 0, 0, 0);
+            turned[i] = (i + 1) % 24;
+        }
+        yes("the first of 24 to the last place", full.order(0, 23));
+        sameOrder(full, turned);
+        no("place 24", full.order(0, 24));
+
         ToolChoice mixed = onePlatform(0);
         mixed.tool(0, 0, 0, 0);
         mixed.tool(1, 0, 0, 0);
@@ -369,6 +379,10 @@ public final class ToolChoicePromises {
         build.ask(0, 0, true);
         build.choose(0);
         sameRow(build, 0, 0, 0, 5, 4);
+        build.needs(0, 0);
+        build.choose(0);
+        sameRow(build, 0, 0, 0, 5, 0);
+        build.tool(0, 0, 0, -1);
         build.tool(4, 0, 1, 0);
         build.choose(0);
         sameRow(build, 0, 0, 0, 5, 6);
@@ -392,6 +406,14 @@ public final class ToolChoicePromises {
         same("kind 8", x.chosen(8), NONE);
         same("kind MIN", x.chosen(Integer.MIN_VALUE), NONE);
         same("kind MAX", x.chosen(Integer.MAX_VALUE), NONE);
+        x.drop(0);
+        x.ask(7, 0, true);
+        same("choose", x.choose(1), 0);
+        same("not asked this time", x.chosen(0), NONE);
+        same("chosen(7)", x.chosen(7), 1);
+        x.drop(7);
+        x.ask(0, 0, true);
+        same("choose", x.choose(1), 0);
         x.ask(7, 1, true);
         same("asking chooses nothing", x.chosen(0), 0);
         same("choose(9)", x.choose(9), NONE);
@@ -468,6 +490,23 @@ public final class ToolChoicePromises {
         x.platform(3);
         yes("a new platform counts", x.built(2, 2));
 
+        ToolChoice both = new ToolChoice();
+        both.platform(1);
+        both.platform(2);
+        both.tool(0, 0, 1, 0);
+        both.tool(0, 0, 2, 0);
+        both.tool(1, 0, 0, 0);
+        both.needs(2, 0);
+        yes("one of a kind makes for 0", both.built(2, 0));
+        yes("another of it makes for 1", both.built(2, 1));
+        both.tool(3, 1, 0, 0);
+        both.needs(3, 0);
+        yes("supplied where it runs", both.built(3, 0));
+        no("supplied where it doesn't run", both.built(3, 1));
+        both.needs(3, 2);
+        both.needs(3, 1);
+        no("all kinds must be there", both.built(3, 0));
+
         ToolChoice chain = onePlatform(0);
         for (int kind = 0; kind < 8; kind++) {
             chain.tool(kind, 0, 0, 0);
@@ -537,6 +576,28 @@ public final class ToolChoicePromises {
         yes("tool 0 is built by tool 2", half.built(0, 0));
         no("tool 1 isn't", half.built(1, 0));
         same("a way by a built tool is no ring", half.ring(0), NONE);
+
+        ToolChoice fork = onePlatform(0);
+        fork.tool(0, 0, 0, 0);
+        fork.tool(1, 0, 0, 0);
+        fork.tool(2, 0, 0, 0);
+        fork.needs(0, 1);
+        fork.needs(0, 2);
+        fork.needs(1, 0);
+        fork.needs(2, 7);
+        same("one of two ways leads back", fork.ring(0), 0);
+        same("ring(1)", fork.ring(1), 1);
+        same("ring(2)", fork.ring(2), NONE);
+
+        ToolChoice full = onePlatform(0);
+        for (int i = 0; i < 24; i++) {
+            full.tool(i % 8, 0, 0, 0);
+            full.needs(i, (i + 1) % 8);
+        }
+        for (int i = 0; i < 24; i++) {
+            same("all 24 in rings", full.ring(i), i);
+        }
+        same("ring(24)", full.ring(24), NONE);
 
         ToolChoice nowhere = onePlatform(0);
         nowhere.tool(0, 0, 0, 0);
