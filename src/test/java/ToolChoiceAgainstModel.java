@@ -9,8 +9,13 @@ import java.util.Set;
 /** Compares runs of calls, the same ones every time, with a model that follows the document's words. */
 public final class ToolChoiceAgainstModel {
     private static final int NONE = -1;
-    private static final int RUNS = 800;
+    private static final int RUNS = 3000;
+    // The document leaves free what calls beyond these answer.
     private static final int CALLS = 512;
+    // Kept for the end of a run: a choosing, how many rows it has, a cell of each row at the most,
+    // and a tool of each kind.
+    private static final int LAST_CALLS = 1 + 1 + 144 + 8;
+    private static final int MOST_OF_A_STEP = 7;
 
     private record Tool(int number, int kind, int runs, int makes, int version) {}
 
@@ -280,7 +285,7 @@ public final class ToolChoiceAgainstModel {
         final int kinds;
         final ToolChoice real = new ToolChoice();
         final Model model = new Model();
-        int call = 0;
+        int calls = 0;
 
         Run(int seed) {
             this.seed = seed;
@@ -303,9 +308,11 @@ public final class ToolChoiceAgainstModel {
             return seed % 2 == 0 ? some : Integer.reverse(some);
         }
 
+        /** Every call of the class is compared by this one, so this one counts them. */
         boolean same(String what, int got, int want) {
+            calls++;
             if (got != want) {
-                System.out.println("seed " + seed + ", call " + call + ": " + what
+                System.out.println("seed " + seed + ", call " + calls + ": " + what
                         + " answered " + got + ", due is " + want);
             }
             return got == want;
@@ -316,13 +323,27 @@ public final class ToolChoiceAgainstModel {
         }
 
         boolean choose(int platform) {
-            boolean good = same("choose", real.choose(platform), model.choose(platform))
+            return same("choose", real.choose(platform), model.choose(platform))
                     && same("rows", real.rows(), model.told.size());
+        }
+
+        /** One row whole, as all rows of each choosing would be too many calls. */
+        boolean chooseAndLook(int platform) {
+            boolean good = choose(platform);
+            int i = random.nextInt(model.told.size() + 1);
+            for (int what = 0; what < 4 && good; what++) {
+                good = same("row", real.row(i, what), model.row(i, what));
+            }
+            int kind = random.nextInt(kinds);
+            return good && same("chosen", real.chosen(kind), model.chosen(kind));
+        }
+
+        boolean last() {
+            boolean good = choose(random.nextInt(Math.max(1, model.platforms.size())));
             for (int i = 0; i < model.told.size() && good; i++) {
+                int what = random.nextInt(4);
+                good = same("row", real.row(i, what), model.row(i, what));
                 SEEN[model.row(i, 2)]++;
-                for (int what = 0; what < 4 && good; what++) {
-                    good = same("row", real.row(i, what), model.row(i, what));
-                }
             }
             for (int kind = 0; kind < 8 && good; kind++) {
                 good = same("chosen", real.chosen(kind), model.chosen(kind));
@@ -338,7 +359,7 @@ public final class ToolChoiceAgainstModel {
             switch (random.nextInt(24)) {
                 case 0: {
                     int has = had();
-                    return random.nextInt(4) != 0 || same("platform", real.platform(has), model.platform(has));
+                    return random.nextInt(2) != 0 || same("platform", real.platform(has), model.platform(has));
                 }
                 case 1, 2: {
                     int runs = wanted();
@@ -362,7 +383,7 @@ public final class ToolChoiceAgainstModel {
                     return same("force", real.force(to, a), model.force(to, a));
                 }
                 case 12, 13, 14, 15:
-                    return choose(platform);
+                    return chooseAndLook(platform);
                 case 16:
                     return same("chosen", real.chosen(a), model.chosen(a));
                 case 17: {
@@ -383,10 +404,15 @@ public final class ToolChoiceAgainstModel {
 
         boolean go() {
             boolean good = true;
-            for (call = 0; call < CALLS && good; call++) {
+            // Not every step makes a call, so the steps have a bound of their own.
+            for (int step = 0; step < CALLS && calls + MOST_OF_A_STEP + LAST_CALLS <= CALLS && good; step++) {
                 good = step();
             }
-            return good;
+            good = good && last();
+            if (calls > CALLS) {
+                System.out.println("seed " + seed + ": the test itself made " + calls + " calls");
+            }
+            return good && calls <= CALLS;
         }
     }
 
